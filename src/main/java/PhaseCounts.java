@@ -79,7 +79,7 @@ public final class PhaseCounts {
         }
         int sum = 0;
         for (int p = 1; p <= lastParity(); p++) {
-            if (isOdd(Integer.bitCount(p & x))) {
+            if ((Integer.bitCount(p & x) & 1) != 0) {
                 sum += phases[p];
             }
         }
@@ -221,10 +221,6 @@ public final class PhaseCounts {
         return needed;
     }
 
-    private static boolean isOdd(int number) {
-        return (number & 1) != 0;
-    }
-
     /**
      * The least of all phases with one function.
      *
@@ -233,10 +229,9 @@ public final class PhaseCounts {
      * Fours: 4 more for each parity of a set whose exclusive or is empty. Any x has an odd number
      * of inputs in common with an even number of them, so the sum grows by a multiple of 8.
      *
-     * Shifts: over all parities within a set S, 1 more where as many inputs of S are missing as
-     * make an even number, else 1 less. The sum grows by 2^(|S| - 1), up to its sign, for an x
-     * that holds all of S, and by 0 for others: 8 for S of four inputs, and for S of three if
-     * all is taken twice.
+     * Shifts: 1 more for each parity within a set of four inputs, or 2 more within a set of three.
+     * Any x that has an input in common with the set has an odd number in common with 8 or 4 of
+     * these parities, any other x with none, so the sum grows by 8 or 0.
      *
      * Only shifts change phases modulo 4; the fours behind a shift are chosen one by one.
      */
@@ -280,11 +275,9 @@ public final class PhaseCounts {
 
         private void shiftTried(int shift) {
             int set = SHIFT_SET[shift];
-            int size = SHIFT_SIZE[shift];
             for (int p = 1; p <= last; p++) {
                 if ((p & set) == p) {
-                    int by = isOdd(Integer.bitCount(set ^ p)) ? -size : size;
-                    tried[p] = (tried[p] + by) & PHASE_MASK;
+                    tried[p] = (tried[p] + SHIFT_SIZE[shift]) & PHASE_MASK;
                 }
             }
         }
