@@ -11,6 +11,15 @@ final class Due {
         }
     }
 
+    /** As above; the text is made only if it is shown. */
+    void is(String at, Object call, long got, long want) {
+        looked++;
+        if (got != want) {
+            wrong++;
+            System.out.println(at + ": " + call + " answered " + got + ", due is " + want);
+        }
+    }
+
     void isTrue(String call, boolean got) {
         is(call, got ? 1 : 0, 1);
     }

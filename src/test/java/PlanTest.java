@@ -150,10 +150,10 @@ public final class PlanTest {
     /** Every plan, done from wires at first, must give the map and have had each needed parity. */
     private static void plansLeadToTheMap(Due due) {
         Random random = new Random(13);
-        PhaseCounts x = new PhaseCounts();
-        Reference y = new Reference();
-        PhaseCounts z = new PhaseCounts();
         for (int k = 0; k < 300; k++) {
+            PhaseCounts x = new PhaseCounts();
+            Reference y = new Reference();
+            PhaseCounts z = new PhaseCounts();
             int n = 1 + k % 4;
             x.begin(n);
             y.begin(n);

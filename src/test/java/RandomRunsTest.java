@@ -23,7 +23,8 @@ public final class RandomRunsTest {
     }
 
     private static void call(Due due, String at, Random random, PhaseCounts x, Reference y) {
-        int wires = x.total(0);
+        // Asked of the reference: an object of the class has no call to spare.
+        int wires = y.total(0);
         int a = number(random, 0, wires - 1);
         int b = number(random, 0, wires - 1);
         int kind = random.nextInt(100);
