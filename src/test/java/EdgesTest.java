@@ -423,6 +423,7 @@ public final class EdgesTest {
     // 13: "how many ways of PHASES have this FUNCTION": as many for each function.
     private static void totalOfWays(Due due) {
         for (int n = 1; n <= 4; n++) {
+            due.is("13: counted apart", "ways of " + n, Reference.ways(n), WAYS[n]);
             for (String state : new String[] {"begin " + n, USED[n], USED[n] + "; settle", Runs.full(n, 7)}) {
                 due.is("13: [" + state + "]", "total 3", Call.done(state).total(3), WAYS[n]);
             }

@@ -164,8 +164,7 @@ final class Reference {
 
     /**
      * Sums of those for three wires, put on every three parities of four wires, and one on all 15;
-     * each is tried, and that there are 131072, as many as the shared test asks for, shows that
-     * none is missing.
+     * each is tried, and that there are as many as there must be shows that none is missing.
      */
     private static int[][] stillOfFour() {
         Set<Long> all = new HashSet<>();
@@ -184,8 +183,58 @@ final class Reference {
                 }
             }
         }
-        if (list.size() != 131072) throw new IllegalStateException("ways of four wires: " + list.size());
+        if (list.size() != ways(4)) throw new IllegalStateException("ways of four wires: " + list.size());
         return list.toArray(new int[0][]);
+    }
+
+    /**
+     * How many phases have the function 0, without listing them: the table of which parities count
+     * for which x is made diagonal modulo 8, and of 8 values those that a number on the diagonal
+     * makes 0 are 1, 2, 4 or 8.
+     */
+    static int ways(int n) {
+        int size = (1 << n) - 1;
+        int[][] table = new int[size][size];
+        for (int i = 0; i < size * size; i++) {
+            table[i / size][i % size] = Integer.bitCount(i / size + 1 & i % size + 1) % 2;
+        }
+        int ways = 1;
+        for (int k = 0; k < size; k++) {
+            bringLeastTo(table, k);
+            ways *= twos(table[k][k]);
+            for (int r = k + 1; r < size; r++) {
+                int times = 0;
+                while ((table[r][k] - times * table[k][k]) % 8 != 0) times++;
+                for (int c = k; c < size; c++) table[r][c] = Math.floorMod(table[r][c] - times * table[k][c], 8);
+            }
+        }
+        return ways;
+    }
+
+    /** How many times 2 is in a number modulo 8, as 1, 2, 4 or 8. */
+    private static int twos(int number) {
+        return Integer.lowestOneBit(number | 8);
+    }
+
+    private static void bringLeastTo(int[][] table, int k) {
+        int row = k;
+        int column = k;
+        for (int r = k; r < table.length; r++) {
+            for (int c = k; c < table.length; c++) {
+                if (twos(table[r][c]) < twos(table[row][column])) {
+                    row = r;
+                    column = c;
+                }
+            }
+        }
+        int[] kept = table[k];
+        table[k] = table[row];
+        table[row] = kept;
+        for (int[] line : table) {
+            int number = line[k];
+            line[k] = line[column];
+            line[column] = number;
+        }
     }
 
     private static List<int[]> seedsOfFour() {
