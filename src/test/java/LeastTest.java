@@ -33,7 +33,7 @@ public final class LeastTest {
         for (int[] row : least) {
             PhaseCounts x = new PhaseCounts();
             x.begin(2);
-            give(x, new int[] {0, row[0], row[1], row[2]});
+            Runs.give(x, new int[] {0, row[0], row[1], row[2]});
             int others = 0;
             for (int p = 1; p <= 3; p++) {
                 due.is("9: least(100 + " + p + ")", x.least(100 + p), row[2 + p]);
@@ -108,7 +108,7 @@ public final class LeastTest {
         Reference y = new Reference();
         x.begin(n);
         y.begin(n);
-        give(x, phases);
+        Runs.give(x, phases);
         give(y, phases);
         String name = "9: of " + java.util.Arrays.toString(phases) + " least ";
         due.is(name + 0, x.least(0), y.least(0));
@@ -129,7 +129,7 @@ public final class LeastTest {
         PhaseCounts x = new PhaseCounts();
         x.begin(2);
         due.is("10: settle()", x.settle(), 0);
-        give(x, new int[] {0, 4, 4, 4});
+        Runs.give(x, new int[] {0, 4, 4, 4});
         due.is("10: settle()", x.settle(), 3);
         due.is("10: total(1)", x.total(1), 0);
         x.turn(0, 1);
@@ -138,16 +138,7 @@ public final class LeastTest {
         due.is("10: parity(0) is kept", x.parity(0), 1);
     }
 
-    /** Brings each parity onto the wire of its last input, turns there, and undoes the joins. */
-    private static void give(PhaseCounts x, int[] phases) {
-        for (int p = 1; p < phases.length; p++) {
-            int top = 31 - Integer.numberOfLeadingZeros(p);
-            for (int w = 0; w < top; w++) if ((p >> w & 1) != 0) x.join(w, top);
-            x.turn(top, phases[p]);
-            for (int w = 0; w < top; w++) if ((p >> w & 1) != 0) x.join(w, top);
-        }
-    }
-
+    /** As Runs.give does. */
     private static void give(Reference y, int[] phases) {
         for (int p = 1; p < phases.length; p++) {
             int top = 31 - Integer.numberOfLeadingZeros(p);

@@ -26,4 +26,14 @@ final class Runs {
         }
         return joins + "; turn " + top + " " + e + joins;
     }
+
+    /** As phases, done at once on wires at first. */
+    static void give(PhaseCounts x, int[] phases) {
+        for (int p = 1; p < phases.length; p++) {
+            int top = 31 - Integer.numberOfLeadingZeros(p);
+            for (int w = 0; w < top; w++) if ((p >> w & 1) != 0) x.join(w, top);
+            x.turn(top, phases[p]);
+            for (int w = 0; w < top; w++) if ((p >> w & 1) != 0) x.join(w, top);
+        }
+    }
 }
